@@ -1,3 +1,5 @@
+import java.util.function.IntUnaryOperator;
+
 /** For each promise of the document: ordinary inputs, the edges that it names, and wrong inputs. */
 public final class PromisesTest {
     private static final int[] NO_SENSOR = {-1, 12, Integer.MIN_VALUE, Integer.MAX_VALUE};
@@ -473,6 +475,9 @@ public final class PromisesTest {
         Checks.due("10 one sample for each reading", SensorBond.CHALLENGED, x.sample(5, 1, 1));
         int liar = lie(x, 1);
         Checks.badState("10 it is a LIE", () -> x.sample(1, liar, 50));
+        x.advance(5);
+        Checks.badState("10 too late for one that has STOOD", () -> x.sample(0, 1, 1));
+        Checks.due("10 what came too late is not counted", 1, x.middle(1));
         x.setLoss(0, 2);
         int lost = x.tell(1, 0);
         Checks.badState("10 it is LOST", () -> x.sample(0, lost, 50));
@@ -668,13 +673,13 @@ public final class PromisesTest {
         Checks.due("13 they stay", 2, x.readings());
     }
 
-    private static void wrongReadings(String promise, SensorBond x, int count, java.util.function.IntUnaryOperator call) {
+    private static void wrongReadings(String promise, int count, IntUnaryOperator call) {
         for (int reading : new int[] {-1, count, 80, Integer.MIN_VALUE, Integer.MAX_VALUE}) {
             Checks.noIndex(promise + " reading " + reading, () -> call.applyAsInt(reading));
         }
     }
 
-    private static void wrongSensors(String promise, java.util.function.IntUnaryOperator call) {
+    private static void wrongSensors(String promise, IntUnaryOperator call) {
         for (int sensor : NO_SENSOR) {
             Checks.noIndex(promise + " sensor " + sensor, () -> call.applyAsInt(sensor));
         }
@@ -682,7 +687,7 @@ public final class PromisesTest {
 
     private static void promise14StateOf() {
         SensorBond x = new SensorBond();
-        wrongReadings("14", x, 0, x::stateOf);
+        wrongReadings("14", 0, x::stateOf);
         x.tell(0, 50);
         x.tell(1, 50);
         x.challenge(0, 1);
@@ -696,12 +701,12 @@ public final class PromisesTest {
         Checks.due("14 STOOD", 2, x.stateOf(0));
         Checks.due("14 LIE", 3, x.stateOf(1));
         Checks.due("14 LOST for ever", 4, x.stateOf(2));
-        wrongReadings("14", x, 3, x::stateOf);
+        wrongReadings("14", 3, x::stateOf);
     }
 
     private static void promise15Parts() {
         SensorBond x = new SensorBond();
-        wrongReadings("15", x, 0, x::parts);
+        wrongReadings("15", 0, x::parts);
         int[] due = {4, 3, 2, 2, 1};
         x.setLoss(2, 4);
         x.setLoss(3, 2);
@@ -747,12 +752,12 @@ public final class PromisesTest {
         y.advance(1);
         y.tell(11, 1);
         Checks.due("15 the second one is lost", 0, y.parts(6));
-        wrongReadings("15", y, 7, y::parts);
+        wrongReadings("15", 7, y::parts);
     }
 
     private static void promise16Users() {
         SensorBond x = new SensorBond();
-        wrongReadings("16", x, 0, x::users);
+        wrongReadings("16", 0, x::users);
         for (int buyer = 0; buyer < 6; buyer++) {
             x.open(buyer, 0, 1);
         }
@@ -768,12 +773,12 @@ public final class PromisesTest {
         x.open(4, 0, 1);
         int liar = lie(x, 5);
         Checks.due("16 stays when it is a LIE", 1, x.users(liar));
-        wrongReadings("16", x, 4, x::users);
+        wrongReadings("16", 4, x::users);
     }
 
     private static void promise17Held() {
         SensorBond x = new SensorBond();
-        wrongReadings("17", x, 0, x::held);
+        wrongReadings("17", 0, x::held);
         x.setPrice(0, 3);
         x.open(0, 0, 2);
         x.setPrice(0, 5);
@@ -796,14 +801,14 @@ public final class PromisesTest {
         x.sample(4, liar, 99);
         x.sample(1, liar, 99);
         Checks.due("17 nothing for a LIE", 0, x.held(liar));
-        wrongReadings("17", x, 3, x::held);
+        wrongReadings("17", 3, x::held);
     }
 
     private static void promise18Middle() {
         int[][] givers = {{4, 30}, {6, 10}, {1, 20}, {9, 40}};
         int[] dues = {30, 10, 20, 20};
         SensorBond x = new SensorBond();
-        wrongReadings("18", x, 0, x::middle);
+        wrongReadings("18", 0, x::middle);
         x.tell(5, 20);
         Checks.due("18 FRESH", SensorBond.NONE, x.middle(0));
         x.challenge(0, 0);
@@ -822,7 +827,7 @@ public final class PromisesTest {
         x.challenge(0, 2);
         x.sample(2, 2, 0);
         Checks.due("18 a sample of 0", 0, x.middle(2));
-        wrongReadings("18", x, 3, x::middle);
+        wrongReadings("18", 3, x::middle);
         allOrdersOfFour();
     }
 
@@ -849,7 +854,7 @@ public final class PromisesTest {
 
     private static void promise19TextAt() {
         SensorBond x = new SensorBond();
-        wrongReadings("19", x, 0, r -> x.textAt(r, 0));
+        wrongReadings("19", 0, r -> x.textAt(r, 0));
         x.tell(0, 0);
         x.tell(11, 99);
         x.challenge(0, 1);
@@ -870,7 +875,7 @@ public final class PromisesTest {
         Checks.due("19 far behind", SensorBond.NONE, x.textAt(1, Integer.MAX_VALUE));
         Checks.noIndex("19 place -1", () -> x.textAt(0, -1));
         Checks.noIndex("19 place far below 0", () -> x.textAt(0, Integer.MIN_VALUE));
-        wrongReadings("19", x, 3, r -> x.textAt(r, 0));
+        wrongReadings("19", 3, r -> x.textAt(r, 0));
     }
 
     private static void promise20Bond() {
@@ -901,6 +906,9 @@ public final class PromisesTest {
         lie(x, 0);
         Checks.due("21 at most the bond", 0, x.bondByCuts(0));
         Checks.due("21 another sensor", 100, x.bondByCuts(1));
+        SensorBond first = new SensorBond();
+        lie(first, 0);
+        Checks.due("21 the very first reading", 96, first.bondByCuts(0));
         wrongSensors("21", x::bondByCuts);
     }
 
