@@ -4,23 +4,29 @@ import java.util.function.IntSupplier;
 final class Checks {
     private static int done = 0;
     private static int wrong = 0;
+    private static String about = "";
 
     private Checks() {
     }
 
+    /** What the checks that follow are about: it stands ahead of each fault that they find. */
+    static void begin(String topic) {
+        about = topic.isEmpty() ? "" : "[" + topic + "] ";
+    }
+
+    static int done() {
+        return done;
+    }
+
     static void due(String what, long want, long got) {
-        done++;
-        if (want != got) {
-            wrong++;
-            System.out.println(what + ": answered " + got + ", due is " + want);
-        }
+        due(what, String.valueOf(want), String.valueOf(got));
     }
 
     static void due(String what, String want, String got) {
         done++;
         if (!want.equals(got)) {
             wrong++;
-            System.out.println(what + ": answered " + got + ", due is " + want);
+            System.out.println(about + what + ": answered " + got + ", due is " + want);
         }
     }
 

@@ -57,9 +57,12 @@ public final class ModelTest {
         int sensors = run % 3 == 0 ? 3 : 12;
         int patience = 4 + run % 30;
         for (int i = 0; i < CALLS; i++) {
-            String before = snapshot(x);
+            String before = Views.line(x);
             String name = step(run, x, model, sensors, patience, i < PROMISED);
-            String after = snapshot(x);
+            String after = Views.line(x);
+            for (int s = 0; s < 12; s++) {
+                Checks.due("bond and bondByCuts", x.bond(s), x.bondByCuts(s));
+            }
             if (name.endsWith("refused")) {
                 Checks.due("run " + run + ": refused " + name, before, after);
             }
@@ -163,34 +166,6 @@ public final class ModelTest {
         }
         int[] steps = {-4, -1, 1, 4};
         return Math.max(0, Math.min(11, x.textAt(reading, 0) - 'a' + steps[pick(4)]));
-    }
-
-    /** The same line that the model writes, from the answers of the face. */
-    private static String snapshot(SensorBond x) {
-        TreeMap<String, Integer> book = new TreeMap<>();
-        StringBuilder text = new StringBuilder();
-        for (int s = 0; s < 12; s++) {
-            Checks.due("bond and bondByCuts", x.bond(s), x.bondByCuts(s));
-            book.put("bond" + s, x.bond(s));
-            book.put("earned" + s, x.earned(s));
-            text.append(" mark").append(x.mark(s));
-            for (int b = 0; b < 6; b++) {
-                text.append(' ').append(x.aside(b, s));
-            }
-        }
-        for (int b = 0; b < 6; b++) {
-            book.put("purse" + b, x.purse(b));
-        }
-        book.put("house", x.house());
-        for (int r = 0; r < x.readings(); r++) {
-            text.append(' ');
-            for (int place = 0; x.textAt(r, place) != SensorBond.NONE; place++) {
-                text.append((char) x.textAt(r, place));
-            }
-            text.append('/').append(x.parts(r)).append('/').append(x.users(r));
-            text.append('/').append(x.held(r)).append('/').append(x.middle(r));
-        }
-        return "tick " + x.tick() + " " + book + text;
     }
 
     private static long allMoney(SensorBond x) {

@@ -42,39 +42,6 @@ public final class PromisesTest {
         Checks.close("PromisesTest");
     }
 
-    // ---- what the tests say often
-
-    private static String textOf(SensorBond x, int reading) {
-        StringBuilder text = new StringBuilder();
-        for (int place = 0; place < 10; place++) {
-            int sign = x.textAt(reading, place);
-            if (sign != SensorBond.NONE) {
-                text.append((char) sign);
-            }
-        }
-        return text.toString();
-    }
-
-    /** Sensor 0 tells 0, the buyer challenges it, and both neighbours say 99. */
-    private static int lie(SensorBond x, int challenger) {
-        int reading = x.tell(0, 0);
-        x.challenge(challenger, reading);
-        x.sample(1, reading, 99);
-        x.sample(4, reading, 99);
-        return reading;
-    }
-
-    /** Sensor 0 gets a purse of so much, from a window of buyer 5 at the price 1. */
-    private static SensorBond withEarned(int sum) {
-        SensorBond x = new SensorBond();
-        x.setPrice(0, sum);
-        x.open(5, 0, 1);
-        x.tell(0, 50);
-        x.advance(5);
-        x.setPrice(0, 1);
-        return x;
-    }
-
     // ---- the promises
 
     private static void promise01NewObject() {
@@ -233,7 +200,7 @@ public final class PromisesTest {
     }
 
     private static void promise06TopUp() {
-        SensorBond x = withEarned(20);
+        SensorBond x = Scenes.withEarned(20);
         Checks.badState("6 above the purse", () -> x.topUp(0, 21));
         Checks.badState("6 far above the purse", () -> x.topUp(0, Integer.MAX_VALUE));
         Checks.due("6 one", 101, x.topUp(0, 1));
@@ -282,14 +249,14 @@ public final class PromisesTest {
     private static void mutedBelowTwenty() {
         SensorBond x = new SensorBond();
         x.setPrice(0, 20);
-        lie(x, 0);
+        Scenes.lie(x, 0);
         Checks.due("7 bond 20", 20, x.bond(0));
         x.advance(1);
         Checks.due("7 with 20 it is not muted", 1, x.tell(0, 0));
         x.advance(5);
         x.setPrice(0, 1);
         x.open(1, 0, 2);
-        int reading = lie(x, 0);
+        int reading = Scenes.lie(x, 0);
         Checks.due("7 used by one", 1, x.users(reading));
         Checks.due("7 bond 12", 12, x.bond(0));
         x.advance(1);
@@ -300,12 +267,12 @@ public final class PromisesTest {
         x.challenge(0, other);
         Checks.due("7 but it can give samples", SensorBond.CHALLENGED, x.sample(0, other, 0));
 
-        SensorBond y = withEarned(20);
+        SensorBond y = Scenes.withEarned(20);
         y.setPrice(0, 20);
-        lie(y, 0);
+        Scenes.lie(y, 0);
         y.advance(1);
         y.setPrice(0, 1);
-        lie(y, 0);
+        Scenes.lie(y, 0);
         y.advance(1);
         Checks.due("7 bond 16", 16, y.bond(0));
         Checks.badState("7 muted again", () -> y.tell(0, 0));
@@ -326,7 +293,7 @@ public final class PromisesTest {
         Checks.badState("7 the eighty-first", () -> x.tell(11, 0));
         Checks.badArgument("7 the value before the eighty", () -> x.tell(11, 100));
         Checks.due("7 eighty", 80, x.readings());
-        Checks.due("7 the last one", "h79.", textOf(x, 79));
+        Checks.due("7 the last one", "h79.", Views.text(x, 79));
         Checks.noIndex("7 none behind", () -> x.stateOf(80));
         x.advance(100);
         Checks.badState("7 eighty for ever", () -> x.tell(0, 0));
@@ -419,7 +386,7 @@ public final class PromisesTest {
         x.advance(5);
         Checks.due("9 has stood", SensorBond.STOOD, x.stateOf(0));
         Checks.badState("9 it has STOOD", () -> x.challenge(2, 0));
-        int liar = lie(x, 0);
+        int liar = Scenes.lie(x, 0);
         Checks.badState("9 it is a LIE", () -> x.challenge(2, liar));
         x.setLoss(0, 2);
         int lost = x.tell(1, 0);
@@ -473,7 +440,7 @@ public final class PromisesTest {
         Checks.due("10 but one below", SensorBond.CHALLENGED, x.sample(7, 2, 1));
         x.challenge(0, 1);
         Checks.due("10 one sample for each reading", SensorBond.CHALLENGED, x.sample(5, 1, 1));
-        int liar = lie(x, 1);
+        int liar = Scenes.lie(x, 1);
         Checks.badState("10 it is a LIE", () -> x.sample(1, liar, 50));
         x.advance(5);
         Checks.badState("10 too late for one that has STOOD", () -> x.sample(0, 1, 1));
@@ -519,7 +486,7 @@ public final class PromisesTest {
         x.open(0, 0, 2);
         x.open(1, 0, 2);
         x.open(2, 0, 2);
-        lie(x, 0);
+        Scenes.lie(x, 0);
         Checks.due("10 the cut is 4 * 3 * 4", 52, x.bond(0));
         Checks.due("10 user and challenger: 3 back, 4 back, 8 and 12", 200 - 6 - 4 + 3 + 4 + 8 + 12, x.purse(0));
         Checks.due("10 user: 3 back, and 8", 200 - 6 + 3 + 8, x.purse(1));
@@ -529,7 +496,7 @@ public final class PromisesTest {
         Checks.due("10 what was not used is aside", 3, x.aside(1, 0));
 
         SensorBond none = new SensorBond();
-        lie(none, 3);
+        Scenes.lie(none, 3);
         Checks.due("10 unused: the cut is 4", 96, none.bond(0));
         Checks.due("10 the challenger has a fourth", 201, none.purse(3));
         Checks.due("10 the half is left for the house", 3, none.house());
@@ -539,20 +506,20 @@ public final class PromisesTest {
         for (int buyer = 0; buyer < 6; buyer++) {
             all.open(buyer, 0, 1);
         }
-        lie(all, 5);
+        Scenes.lie(all, 5);
         Checks.due("10 at most the bond", 0, all.bond(0));
         Checks.due("10 a sixth of the half, rounded down", 208, all.purse(0));
         Checks.due("10 and a fourth", 233, all.purse(5));
         Checks.due("10 what is rounded away is the house's", 100 - 48 - 25, all.house());
 
-        SensorBond odd = withEarned(1);
+        SensorBond odd = Scenes.withEarned(1);
         odd.setPrice(0, 20);
-        lie(odd, 0);
+        Scenes.lie(odd, 0);
         odd.advance(1);
         odd.topUp(0, 1);
         odd.open(1, 0, 1);
         odd.open(2, 0, 1);
-        lie(odd, 0);
+        Scenes.lie(odd, 0);
         Checks.due("10 an odd cut of 21", 0, odd.bond(0));
         Checks.due("10 half of 21 by two", 205, odd.purse(1));
         Checks.due("10 a fourth of 80 and of 21", 200 + 20 + 5, odd.purse(0));
@@ -771,7 +738,7 @@ public final class PromisesTest {
         x.advance(5);
         Checks.due("16 stays when it has STOOD", 6, x.users(0));
         x.open(4, 0, 1);
-        int liar = lie(x, 5);
+        int liar = Scenes.lie(x, 5);
         Checks.due("16 stays when it is a LIE", 1, x.users(liar));
         wrongReadings("16", 4, x::users);
     }
@@ -860,13 +827,13 @@ public final class PromisesTest {
         x.challenge(0, 1);
         x.setLoss(0, 2);
         x.tell(1, 10);
-        Checks.due("19 FRESH", "a0.", textOf(x, 0));
-        Checks.due("19 CHALLENGED", "l99?", textOf(x, 1));
-        Checks.due("19 LOST", "b10x", textOf(x, 2));
+        Checks.due("19 FRESH", "a0.", Views.text(x, 0));
+        Checks.due("19 CHALLENGED", "l99?", Views.text(x, 1));
+        Checks.due("19 LOST", "b10x", Views.text(x, 2));
         x.sample(7, 1, 9);
         x.advance(5);
-        Checks.due("19 STOOD", "a0+", textOf(x, 0));
-        Checks.due("19 LIE", "l99-", textOf(x, 1));
+        Checks.due("19 STOOD", "a0+", Views.text(x, 0));
+        Checks.due("19 LIE", "l99-", Views.text(x, 1));
         Checks.due("19 first sign", 'a', x.textAt(0, 0));
         Checks.due("19 second sign", '0', x.textAt(0, 1));
         Checks.due("19 last sign", '+', x.textAt(0, 2));
@@ -879,41 +846,41 @@ public final class PromisesTest {
     }
 
     private static void promise20Bond() {
-        SensorBond x = withEarned(10);
+        SensorBond x = Scenes.withEarned(10);
         Checks.due("20 first", 100, x.bond(0));
         x.topUp(0, 10);
         Checks.due("20 put", 110, x.bond(0));
-        lie(x, 0);
+        Scenes.lie(x, 0);
         Checks.due("20 cut", 106, x.bond(0));
         Checks.due("20 another sensor", 100, x.bond(1));
         wrongSensors("20", x::bond);
     }
 
     private static void promise21BondByCuts() {
-        SensorBond x = withEarned(10);
+        SensorBond x = Scenes.withEarned(10);
         Checks.due("21 first", 100, x.bondByCuts(0));
         x.topUp(0, 4);
         Checks.due("21 put", 104, x.bondByCuts(0));
         x.topUp(0, 6);
         Checks.due("21 put again", 110, x.bondByCuts(0));
-        lie(x, 0);
+        Scenes.lie(x, 0);
         Checks.due("21 cut", 106, x.bondByCuts(0));
         x.advance(1);
         x.setPrice(0, 20);
-        lie(x, 0);
+        Scenes.lie(x, 0);
         Checks.due("21 cut again", 26, x.bondByCuts(0));
         x.advance(1);
-        lie(x, 0);
+        Scenes.lie(x, 0);
         Checks.due("21 at most the bond", 0, x.bondByCuts(0));
         Checks.due("21 another sensor", 100, x.bondByCuts(1));
         SensorBond first = new SensorBond();
-        lie(first, 0);
+        Scenes.lie(first, 0);
         Checks.due("21 the very first reading", 96, first.bondByCuts(0));
         wrongSensors("21", x::bondByCuts);
     }
 
     private static void promise22Earned() {
-        SensorBond x = withEarned(10);
+        SensorBond x = Scenes.withEarned(10);
         Checks.due("22 what stood", 10, x.earned(0));
         x.topUp(0, 3);
         Checks.due("22 less what was put", 7, x.earned(0));
@@ -936,10 +903,10 @@ public final class PromisesTest {
         Checks.due("23 CHALLENGED", 1, x.mark(0));
         x.advance(5);
         Checks.due("23 two STOOD", 2, x.mark(0));
-        lie(x, 0);
+        Scenes.lie(x, 0);
         Checks.due("23 a LIE", -1, x.mark(0));
         x.advance(1);
-        lie(x, 0);
+        Scenes.lie(x, 0);
         Checks.due("23 two LIES", -4, x.mark(0));
         x.advance(1);
         x.setLoss(0, 2);
@@ -992,14 +959,14 @@ public final class PromisesTest {
 
     private static void promise26House() {
         SensorBond x = new SensorBond();
-        lie(x, 0);
+        Scenes.lie(x, 0);
         Checks.due("26 three of 4", 3, x.house());
         x.advance(1);
-        lie(x, 0);
+        Scenes.lie(x, 0);
         Checks.due("26 and again", 6, x.house());
         x.advance(1);
         x.open(1, 0, 1);
-        lie(x, 0);
+        Scenes.lie(x, 0);
         Checks.due("26 two of 8", 8, x.house());
         x.tell(3, 1);
         x.challenge(0, 3);
