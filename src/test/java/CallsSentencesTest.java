@@ -52,10 +52,11 @@ public final class CallsSentencesTest {
         for (int reading = 0; reading < 80; reading++) {
             Checks.due("parts", 4, y.parts(reading));
         }
-        String story = Views.story(new SensorBond());
-        SensorBond z = new SensorBond();
-        Scenes.busy();
-        Checks.due("another object does not change it", story, Views.story(z));
+        Checks.due("another object does not change it", Story.of(SensorBond::new), Story.of(() -> {
+            SensorBond first = new SensorBond();
+            Scenes.busy();
+            return first;
+        }));
     }
 
     // ---- promise 2
@@ -587,13 +588,8 @@ public final class CallsSentencesTest {
             x.advance(1);
             Checks.due("five have ended", SensorBond.STOOD, x.stateOf(0));
             Checks.due("so the window is closed", 0, x.aside(0, 1));
-            SensorBond atOnce = Scenes.busy();
-            atOnce.advance(30);
-            SensorBond oneByOne = Scenes.busy();
-            for (int i = 0; i < 30; i++) {
-                oneByOne.advance(1);
-            }
-            Checks.due("thirty at once are as thirty", Views.story(oneByOne), Views.story(atOnce));
+            String oneByOne = Story.of(() -> afterTicks(30, 1));
+            Checks.due("thirty at once are as thirty", oneByOne, Story.of(() -> afterTicks(1, 30)));
         });
         promises.test(11, "- `ticks`: 1 to 100",
             () -> Refusals.argumentRange(1, 100, Scenes::busy, SensorBond::advance));
@@ -619,5 +615,13 @@ public final class CallsSentencesTest {
             Checks.due("and challenged", 2, x.challenge(0, 0));
             Checks.due("and judged", SensorBond.LIE, Scenes.judge(x, 0, 99));
         });
+    }
+
+    private static SensorBond afterTicks(int calls, int ticks) {
+        SensorBond x = Scenes.busy();
+        for (int i = 0; i < calls; i++) {
+            x.advance(ticks);
+        }
+        return x;
     }
 }

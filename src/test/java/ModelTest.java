@@ -1,24 +1,46 @@
 import java.util.Map;
 import java.util.TreeMap;
+import java.util.function.IntSupplier;
 
 /** Long runs of calls, good and bad ones, against {@link PlainModel}; the runs are the same each time. */
 public final class ModelTest {
-    private static final int RUNS = 400;
-    /** Beyond the 512 that the document promises, for the machine may not throw later either. */
-    private static final int CALLS = 600;
+    private static final int RUNS = 6000;
+    /** The document promises no answer behind these. */
     private static final int PROMISED = 512;
+    /** Behind the promised ones, for the machine may not throw there either. */
+    private static final int CALLS = 600;
+    /** What {@link #lookAtAll} takes if there are 80 readings. */
+    private static final int CALLS_FOR_ALL = 290;
     private static final int ALL_MONEY = 6 * 200 + 12 * 100;
 
     private static final Map<String, Integer> seen = new TreeMap<>();
     private static long seed;
 
-    private ModelTest() {
+    private final SensorBond x = new SensorBond();
+    private final PlainModel model = new PlainModel();
+    private final int run;
+    /** With few sensors one that lies is soon muted. */
+    private final int sensors;
+    private final int patience;
+    private int calls = 0;
+
+    private ModelTest(int run) {
+        this.run = run;
+        this.sensors = run % 3 == 0 ? 3 : 12;
+        this.patience = 4 + run % 30;
     }
 
     public static void main(String[] args) {
         for (int run = 0; run < RUNS; run++) {
             seed = run;
-            play(run);
+            ModelTest test = new ModelTest(run);
+            if (run % 2 == 0) {
+                test.play(CALLS);
+            } else {
+                test.play(PROMISED - CALLS_FOR_ALL);
+                test.lookAtAll();
+            }
+            test.countSigns();
         }
         System.out.println("seen: " + seen);
         for (String must : new String[] {"open", "challenge", "sample", "tell", "topUp", "setLoss", "hang", "attach",
@@ -51,96 +73,35 @@ public final class ModelTest {
         }
     }
 
-    private static void play(int run) {
-        SensorBond x = new SensorBond();
-        PlainModel model = new PlainModel();
-        int sensors = run % 3 == 0 ? 3 : 12;
-        int patience = 4 + run % 30;
-        for (int i = 0; i < CALLS; i++) {
-            String before = Views.line(x);
-            String name = step(run, x, model, sensors, patience, i < PROMISED);
-            String after = Views.line(x);
-            for (int s = 0; s < 12; s++) {
-                Checks.due("bond and bondByCuts", x.bond(s), x.bondByCuts(s));
+    /** Mostly one of the last readings, for those are not settled yet. */
+    private int aboutReading() {
+        int count = model.readings();
+        return count == 0 ? about(1) : pick(3) == 0 ? about(count) : count - 1 - pick(Math.min(count, 4));
+    }
+
+    private void play(int most) {
+        while (calls < most) {
+            switch (pick(3)) {
+                case 0:
+                    look();
+                    break;
+                default:
+                    step();
+                    break;
             }
-            if (name.endsWith("refused")) {
-                Checks.due("run " + run + ": refused " + name, before, after);
-            }
-            seen.merge(name, 1, Integer::sum);
-            if (i < PROMISED) {
-                Checks.due("run " + run + ": after " + name, model.snapshot(), after);
-                Checks.due("run " + run + ": all money after " + name, ALL_MONEY, allMoney(x));
-            }
-        }
-        for (int i = 0; i < x.readings(); i++) {
-            seen.merge("sign " + ".?+-x".charAt(x.stateOf(i)), 1, Integer::sum);
         }
     }
 
-    private static String step(int run, SensorBond x, PlainModel model, int sensors, int patience, boolean promised) {
-        int kind = pick(100);
-        int sensor = about(sensors == 3 && pick(2) == 0 ? 3 : 12);
-        int six = about(6);
-        int other = about(6);
-        int value = about(100);
-        int reading = x.readings() == 0 ? about(1) : about(3) == 2 ? about(x.readings()) : x.readings() - 1 - pick(3);
-        String name;
-        String got;
-        String want;
-        if (kind < 4) {
-            name = "hang";
-            got = Checks.answerOf(() -> x.hang(six, other));
-            want = Checks.answerOf(() -> model.hang(six, other));
-        } else if (kind < 7) {
-            name = "attach";
-            got = Checks.answerOf(() -> x.attach(sensor, six));
-            want = Checks.answerOf(() -> model.attach(sensor, six));
-        } else if (kind < 11) {
-            int n = pick(3) == 0 ? 0 : about(10);
-            name = "setLoss";
-            got = Checks.answerOf(() -> x.setLoss(six, n));
-            want = Checks.answerOf(() -> model.setLoss(six, n));
-        } else if (kind < 15) {
-            int price = about(21);
-            name = "setPrice";
-            got = Checks.answerOf(() -> x.setPrice(sensor, price));
-            want = Checks.answerOf(() -> model.setPrice(sensor, price));
-        } else if (kind < 20) {
-            int amount = about(12);
-            name = "topUp";
-            got = Checks.answerOf(() -> x.topUp(sensor, amount));
-            want = Checks.answerOf(() -> model.topUp(sensor, amount));
-        } else if (kind < 40) {
-            name = "tell";
-            got = Checks.answerOf(() -> x.tell(sensor, value));
-            want = Checks.answerOf(() -> model.tell(sensor, value));
-        } else if (kind < 56) {
-            int ticks = pick(3) == 0 ? about(21) : about(5);
-            name = "open";
-            got = Checks.answerOf(() -> x.open(six, sensor, ticks));
-            want = Checks.answerOf(() -> model.open(six, sensor, ticks));
-        } else if (kind < 68) {
-            name = "challenge";
-            got = Checks.answerOf(() -> x.challenge(six, reading));
-            want = Checks.answerOf(() -> model.challenge(six, reading));
-        } else if (kind < 100 - patience / 2) {
-            int near = value >= 0 && pick(2) == 0 ? nearValueOf(x, reading, value) : value;
-            int giver = near == value ? sensor : neighbourOf(x, reading, sensor);
-            name = "sample";
-            got = Checks.answerOf(() -> x.sample(giver, reading, near));
-            want = Checks.answerOf(() -> model.sample(giver, reading, near));
+    /** One call on each side: the same answer or, behind the promised ones, one that a call of the face can give. */
+    private void same(String name, IntSupplier call, IntSupplier due) {
+        String got = Checks.answerOf(call);
+        if (calls < PROMISED) {
+            Checks.due("run " + run + ", call " + calls + ": " + name, Checks.answerOf(due), got);
         } else {
-            int ticks = pick(20) == 0 ? about(101) : pick(30) == 0 ? about(2) : 1 + pick(3);
-            name = "advance";
-            got = Checks.answerOf(() -> x.advance(ticks));
-            want = Checks.answerOf(() -> model.advance(ticks));
+            Checks.holds("run " + run + ", call " + calls + ": " + name + " answered " + got, isAllowed(got));
         }
-        if (promised) {
-            Checks.due("run " + run + ": " + name, want, got);
-        } else {
-            Checks.holds("run " + run + ": " + name + " answered " + got, isAllowed(got));
-        }
-        return name + (got.startsWith("java") ? " refused" : " answered");
+        calls++;
+        seen.merge(name + (got.startsWith("java") ? " refused" : " answered"), 1, Integer::sum);
     }
 
     private static boolean isAllowed(String answer) {
@@ -148,40 +109,181 @@ public final class ModelTest {
             || answer.equals("java.lang.IllegalArgumentException") || answer.equals("java.lang.IllegalStateException");
     }
 
-    private static int nearValueOf(SensorBond x, int reading, int otherwise) {
-        if (reading < 0 || reading >= x.readings()) {
-            return otherwise;
+    // ---- calls that change something
+
+    private void step() {
+        int kind = pick(100);
+        if (kind < 20) {
+            set(kind);
+        } else if (kind < 68) {
+            trade(kind);
+        } else if (kind < 100 - patience / 2) {
+            sample();
+        } else {
+            int ticks = pick(20) == 0 ? about(101) : pick(30) == 0 ? about(2) : 1 + pick(3);
+            same("advance", () -> x.advance(ticks), () -> model.advance(ticks));
         }
-        int value = x.textAt(reading, 1) - '0';
-        int next = x.textAt(reading, 2) - '0';
-        if (next >= 0 && next <= 9) {
-            value = value * 10 + next;
-        }
-        return Math.max(0, Math.min(99, value - 8 + pick(17)));
     }
 
-    private static int neighbourOf(SensorBond x, int reading, int otherwise) {
-        if (reading < 0 || reading >= x.readings()) {
-            return otherwise;
+    private int aboutSensor() {
+        return about(sensors == 3 && pick(2) == 0 ? 3 : 12);
+    }
+
+    private void set(int kind) {
+        int sensor = aboutSensor();
+        int six = about(6);
+        int other = about(6);
+        if (kind < 4) {
+            same("hang", () -> x.hang(six, other), () -> model.hang(six, other));
+        } else if (kind < 7) {
+            same("attach", () -> x.attach(sensor, six), () -> model.attach(sensor, six));
+        } else if (kind < 11) {
+            int n = pick(3) == 0 ? 0 : about(10);
+            same("setLoss", () -> x.setLoss(six, n), () -> model.setLoss(six, n));
+        } else if (kind < 15) {
+            int price = about(21);
+            same("setPrice", () -> x.setPrice(sensor, price), () -> model.setPrice(sensor, price));
+        } else {
+            int amount = about(12);
+            same("topUp", () -> x.topUp(sensor, amount), () -> model.topUp(sensor, amount));
         }
+    }
+
+    private void trade(int kind) {
+        int sensor = aboutSensor();
+        int buyer = about(6);
+        if (kind < 40) {
+            int value = about(100);
+            same("tell", () -> x.tell(sensor, value), () -> model.tell(sensor, value));
+        } else if (kind < 56) {
+            int ticks = pick(3) == 0 ? about(21) : about(5);
+            same("open", () -> x.open(buyer, sensor, ticks), () -> model.open(buyer, sensor, ticks));
+        } else {
+            int reading = aboutReading();
+            same("challenge", () -> x.challenge(buyer, reading), () -> model.challenge(buyer, reading));
+        }
+    }
+
+    /** Every second one by a neighbour, and near the value that was told. */
+    private void sample() {
+        int reading = aboutReading();
+        boolean fits = reading >= 0 && reading < model.readings() && pick(2) == 0;
         int[] steps = {-4, -1, 1, 4};
-        return Math.max(0, Math.min(11, x.textAt(reading, 0) - 'a' + steps[pick(4)]));
+        int sensor = fits ? within(model.sensorOf(reading) + steps[pick(4)], 11) : aboutSensor();
+        int value = fits ? within(model.valueOf(reading) - 8 + pick(17), 99) : about(100);
+        same("sample", () -> x.sample(sensor, reading, value), () -> model.sample(sensor, reading, value));
     }
 
-    private static long allMoney(SensorBond x) {
-        long sum = x.house();
+    private static int within(int number, int most) {
+        return Math.max(0, Math.min(most, number));
+    }
+
+    // ---- calls that change nothing
+
+    private void look() {
+        int kind = pick(15);
+        if (kind < 6) {
+            lookAtReading(kind, aboutReading());
+        } else if (kind < 12) {
+            lookAtPurses(kind, aboutSensor(), about(6));
+        } else {
+            lookAtWhole(kind);
+        }
+    }
+
+    private void lookAtReading(int kind, int reading) {
+        switch (kind) {
+            case 0:
+                same("stateOf", () -> x.stateOf(reading), () -> model.stateOf(reading));
+                break;
+            case 1:
+                same("parts", () -> x.parts(reading), () -> model.parts(reading));
+                break;
+            case 2:
+                same("users", () -> x.users(reading), () -> model.users(reading));
+                break;
+            case 3:
+                same("held", () -> x.held(reading), () -> model.held(reading));
+                break;
+            case 4:
+                same("middle", () -> x.middle(reading), () -> model.middle(reading));
+                break;
+            default:
+                int place = about(5);
+                same("textAt", () -> x.textAt(reading, place), () -> model.textAt(reading, place));
+                break;
+        }
+    }
+
+    private void lookAtPurses(int kind, int sensor, int buyer) {
+        switch (kind) {
+            case 6:
+                same("bond", () -> x.bond(sensor), () -> model.bond(sensor));
+                break;
+            case 7:
+                same("bondByCuts", () -> x.bondByCuts(sensor), () -> model.bond(sensor));
+                break;
+            case 8:
+                same("earned", () -> x.earned(sensor), () -> model.earned(sensor));
+                break;
+            case 9:
+                same("mark", () -> x.mark(sensor), () -> model.mark(sensor));
+                break;
+            case 10:
+                same("purse", () -> x.purse(buyer), () -> model.purse(buyer));
+                break;
+            default:
+                same("aside", () -> x.aside(buyer, sensor), () -> model.aside(buyer, sensor));
+                break;
+        }
+    }
+
+    private void lookAtWhole(int kind) {
+        switch (kind) {
+            case 12:
+                same("tick", x::tick, model::tick);
+                break;
+            case 13:
+                same("readings", x::readings, model::readings);
+                break;
+            default:
+                same("house", x::house, model::house);
+                break;
+        }
+    }
+
+    /** All that anybody has, and what is still held, aside or at stake: no money comes or goes. */
+    private void lookAtAll() {
+        for (int kind = 12; kind < 15; kind++) {
+            lookAtWhole(kind);
+        }
+        int sum = model.house();
         for (int s = 0; s < 12; s++) {
-            sum += x.bond(s) + x.earned(s);
+            for (int kind = 6; kind < 10; kind++) {
+                lookAtPurses(kind, s, 0);
+            }
+            sum += model.bond(s) + model.earned(s);
             for (int b = 0; b < 6; b++) {
-                sum += x.aside(b, s);
+                lookAtPurses(11, s, b);
+                sum += model.aside(b, s);
             }
         }
         for (int b = 0; b < 6; b++) {
-            sum += x.purse(b);
+            lookAtPurses(10, 0, b);
+            sum += model.purse(b);
         }
-        for (int r = 0; r < x.readings(); r++) {
-            sum += x.held(r) + (x.stateOf(r) == SensorBond.CHALLENGED ? 4 : 0);
+        for (int r = 0; r < model.readings(); r++) {
+            lookAtReading(0, r);
+            lookAtReading(3, r);
+            sum += model.held(r) + (model.stateOf(r) == SensorBond.CHALLENGED ? 4 : 0);
         }
-        return sum;
+        Checks.due("run " + run + ": all money", ALL_MONEY, sum);
+        Checks.holds("run " + run + ": all was promised, " + calls, calls <= PROMISED);
+    }
+
+    private void countSigns() {
+        for (int r = 0; r < model.readings(); r++) {
+            seen.merge("sign " + ".?+-x".charAt(model.stateOf(r)), 1, Integer::sum);
+        }
     }
 }

@@ -52,24 +52,7 @@ final class PlainModel {
         book.put("house", 0);
     }
 
-    /** All that the face can tell, in one line. */
-    String snapshot() {
-        StringBuilder text = new StringBuilder("tick " + now + " " + book);
-        for (int s = 0; s < 12; s++) {
-            text.append(" mark").append(mark(s));
-            for (int b = 0; b < 6; b++) {
-                text.append(' ').append(aside(b, s));
-            }
-        }
-        for (Row row : rows) {
-            text.append(' ').append((char) ('a' + row.sensor)).append(row.value).append(row.sign);
-            text.append('/').append(row.parts).append('/').append(row.uses.size());
-            text.append('/').append(held(row)).append('/').append(middle(row));
-        }
-        return text.toString();
-    }
-
-    int get(String name) {
+    private int get(String name) {
         return book.get(name);
     }
 
@@ -242,12 +225,31 @@ final class PlainModel {
         }
     }
 
-    int stateOf(int reading) {
-        index(isRow(reading));
-        return ".?+-x".indexOf(rows.get(reading).sign);
+    int tick() {
+        return now;
     }
 
-    private int held(Row row) {
+    int readings() {
+        return rows.size();
+    }
+
+    int stateOf(int reading) {
+        return ".?+-x".indexOf(row(reading).sign);
+    }
+
+    int parts(int reading) {
+        return row(reading).parts;
+    }
+
+    int users(int reading) {
+        return row(reading).uses.size();
+    }
+
+    int held(int reading) {
+        return held(row(reading));
+    }
+
+    private static int held(Row row) {
         int sum = 0;
         for (int paid : row.uses.values()) {
             sum += row.sign == '.' || row.sign == '?' ? paid : 0;
@@ -255,7 +257,11 @@ final class PlainModel {
         return sum;
     }
 
-    private int middle(Row row) {
+    int middle(int reading) {
+        return middle(row(reading));
+    }
+
+    private static int middle(Row row) {
         if (row.samples.isEmpty()) {
             return -1;
         }
@@ -268,7 +274,33 @@ final class PlainModel {
         return sorted.get(0);
     }
 
-    private int mark(int sensor) {
+    int textAt(int reading, int place) {
+        Row row = row(reading);
+        index(place >= 0);
+        String text = "abcdefghijkl".charAt(row.sensor) + Integer.toString(row.value) + row.sign;
+        return place < text.length() ? text.charAt(place) : -1;
+    }
+
+    int sensorOf(int reading) {
+        return row(reading).sensor;
+    }
+
+    int valueOf(int reading) {
+        return row(reading).value;
+    }
+
+    int bond(int sensor) {
+        index(isSensor(sensor));
+        return get("bond" + sensor);
+    }
+
+    int earned(int sensor) {
+        index(isSensor(sensor));
+        return get("earned" + sensor);
+    }
+
+    int mark(int sensor) {
+        index(isSensor(sensor));
         int sum = 0;
         for (Row row : rows) {
             if (row.sensor == sensor) {
@@ -278,9 +310,24 @@ final class PlainModel {
         return sum;
     }
 
-    private int aside(int buyer, int sensor) {
+    int purse(int buyer) {
+        index(isSix(buyer));
+        return get("purse" + buyer);
+    }
+
+    int aside(int buyer, int sensor) {
+        index(isSix(buyer) && isSensor(sensor));
         Pane pane = pane(buyer, sensor);
         return pane == null ? 0 : pane.left;
+    }
+
+    int house() {
+        return get("house");
+    }
+
+    private Row row(int reading) {
+        index(isRow(reading));
+        return rows.get(reading);
     }
 
     private Pane pane(int buyer, int sensor) {

@@ -69,9 +69,16 @@ final class Refusals {
 
     private static void refused(String what, String exception, Supplier<SensorBond> scene,
             ToIntFunction<SensorBond> call) {
-        SensorBond tried = scene.get();
-        SensorBond left = scene.get();
-        Checks.due(what, exception, Checks.answerOf(() -> call.applyAsInt(tried)));
-        Checks.due(what + " changes nothing", Views.story(left), Views.story(tried));
+        Checks.due(what, exception, tryOn(scene.get(), call));
+        String tried = Story.of(() -> {
+            SensorBond x = scene.get();
+            tryOn(x, call);
+            return x;
+        });
+        Checks.due(what + " changes nothing", Story.of(scene), tried);
+    }
+
+    private static String tryOn(SensorBond x, ToIntFunction<SensorBond> call) {
+        return Checks.answerOf(() -> call.applyAsInt(x));
     }
 }
